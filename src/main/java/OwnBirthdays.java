@@ -307,10 +307,7 @@ public final class OwnBirthdays {
         if (theLand.persons == 0) {
             return NOT;
         }
-        for (int i = 0; i < n; i++) {
-            now.dealByDraws();
-            now.passDays(1);
-        }
+        now.passDaysByDraws(n);
         return now.today;
     }
 
@@ -731,11 +728,11 @@ public final class OwnBirthdays {
         /** How often a birthday comes in the next n days. */
         int comings(int b, int n) {
             int year = land.yearDays;
-            int till = daysTill(b);
-            if (n < till || year < 1) {
+            if (n < 1 || year < 1) {
                 return 0;
             }
-            return 1 + (n - till) / year;
+            int till = daysTill(b);
+            return n < till ? 0 : 1 + (n - till) / year;
         }
 
         /** In how many of the next n days it is lent still. */
@@ -845,10 +842,21 @@ public final class OwnBirthdays {
             return youngest;
         }
 
-        void dealByDraws() {
-            if (land.birthdays == 0 || draw(4) != 0) {
-                return;
+        /** Days without a deal go by in one row: nothing looks at them one by one. */
+        void passDaysByDraws(int n) {
+            int waiting = 0;
+            for (int i = 0; i < n; i++) {
+                if (land.birthdays > 0 && draw(4) == 0) {
+                    passDays(waiting);
+                    waiting = 0;
+                    sellByDraws();
+                }
+                waiting++;
             }
+            passDays(waiting);
+        }
+
+        private void sellByDraws() {
             int b = draw(land.birthdays);
             int p = draw(land.persons);
             int sum = seasonOf(b);

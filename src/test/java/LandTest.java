@@ -8,6 +8,7 @@ public final class LandTest {
         landing();
         landKeepsWhatItShould();
         faultsOfForm();
+        faultsAtTheLastByte();
         faultsOfNumbers();
         faultsOfCounts();
         tellingAll();
@@ -154,6 +155,18 @@ public final class LandTest {
         fault("good 1 1 1;", 1, 9);
         fault("person 1 1;birthday 1 0;", 1, 23);
         fault("person 1 1;birthday 1 0 1 1;", 1, 26);
+    }
+
+    private static void faultsAtTheLastByte() {
+        String[] open = {"person 1 1;person", "person 1 1;person 1", "person 1 1;person 1 1", "person 1 1;person 1 1 "};
+        for (String text : open) {
+            fault(" ".repeat(500 - text.length()) + text, 1, 500);
+        }
+        fault(" ".repeat(494) + "person", 1, 500);
+        fault(" ".repeat(497) + "per", 1, 497);
+        fault(" ".repeat(499) + "5", 1, 499);
+        fault("person 1 1;".repeat(5) + " ".repeat(434) + "person 1000", 2, 500 - 4);
+        C.due("500 bytes", Checks.tell(new OwnBirthdays(), " ".repeat(489) + "person 1 1;"), 1);
     }
 
     private static void faultsOfNumbers() {

@@ -122,6 +122,11 @@ public final class TriedTest {
         C.due("like", like.life(0, 3, 0), 1);
         OwnBirthdays late = Checks.landOf("person 1 0;good 2 4;good 1 4;");
         C.due("late", late.life(0, 3, 2), 0);
+        OwnBirthdays slow = Checks.landOf("person 60 0;good 120 1;");
+        C.due("at last", slow.life(0, 60, -1), 1);
+        C.due("at last", slow.life(0, 60, 59), 1);
+        C.due("too late", slow.life(0, 59, -1), 0);
+        C.due("too late", slow.life(0, 59, 0), 0);
         OwnBirthdays nothing = Checks.landOf("person 120 0;");
         nothing.day(5);
         C.due("nothing good", nothing.life(0, 60, -1), 0);
@@ -183,9 +188,34 @@ public final class TriedTest {
         for (int b : first) {
             C.due("like, birthday " + b, like.given(3, 2, 2, b), due[b]);
         }
+        givingAllOfAll();
         OwnBirthdays none = Checks.landOf("person 5 0;");
         C.due("no birthdays", none.given(1, 5, 1, -1), 0);
         C.due("no birthdays", none.given(1, 6, 9999, -1), Checks.NONE);
+    }
+
+    private static void givingAllOfAll() {
+        StringBuilder text = new StringBuilder("year 9;");
+        for (int p = 0; p < 6; p++) {
+            text.append("person 3 0;");
+        }
+        for (int b = 0; b < 8; b++) {
+            text.append("birthday ").append(b).append(" 5 ").append(10 + b).append(";");
+        }
+        OwnBirthdays x = Checks.landOf(text.toString());
+        // day 0 comes last: within 8 days birthdays 1 to 7 come, so 0 is of no use and stays
+        int[] eightDays = {5, 0, 1, 2, 3, 4, 5, 5};
+        int[] nineDays = {0, 1, 2, 3, 4, 5, 5, 5};
+        C.due("six, 8 days", x.given(6, 4, 8, -1), 11 + 12 + 13 + 14 + 15);
+        C.due("six, 9 days", x.given(6, 4, 9, -1), 10 + 11 + 12 + 13 + 14);
+        for (int b = 0; b < 8; b++) {
+            C.due("six, 8 days, birthday " + b, x.given(6, 4, 8, b), eightDays[b]);
+            C.due("six, 9 days, birthday " + b, x.given(6, 4, 9, b), nineDays[b]);
+        }
+        C.due("six of 5", x.given(6, 5, 9, -1), Checks.NONE);
+        C.due("four of 5, the fourth keeps two", x.given(4, 5, 9, -1), 10 + 11 + 12 + 13 + 14 + 15);
+        C.due("one of 11", x.given(1, 11, 9, -1), 0);
+        C.due("one of 12", x.given(1, 12, 9, -1), Checks.NONE);
     }
 
     private static void givingWithLoans() {
