@@ -11,6 +11,7 @@ public final class DaysBoundsTest {
         anAgeIs999AtMost();
         aLoanIsTillTheEndOfADay();
         aLoanOfTheMostDays();
+        aLoanFromALaterDayOn();
         aLoanEndsWithinTheDaysOfOneCall();
         theUserIsWhomItIsLentTo();
         onlyWhatHasAnOwnerAndIsNotLent();
@@ -142,6 +143,24 @@ public final class DaysBoundsTest {
         C.due("the shortest", x.birthday(0, 4), 19999);
         x.day(1);
         C.due("over", x.told(6), 0);
+    }
+
+    /** A loan that began on another day than 0 ends within the days of one call, of many, and of foretold. */
+    private static void aLoanFromALaterDayOn() {
+        for (int n = 1; n <= 30; n++) {
+            OwnBirthdays x = Checks.landOf("year 10;person 5 0;person 50 0;birthday 3 0 1;");
+            x.day(27);
+            x.lend(0, 1, n, 0);
+            // 0 aged on days 3, 13, 23; days 33, 43, 53 come
+            int lent = (n >= 6 ? 1 : 0) + (n >= 16 ? 1 : 0) + (n >= 26 ? 1 : 0);
+            C.due("from day 27 for " + n + ", till", x.birthday(0, 4), 27 + n);
+            C.due("from day 27 for " + n + ", foretold", x.foretold(1, 30), 50 + lent);
+            C.due("from day 27 for " + n + ", foretold", x.foretold(0, 30), 8 + 3 - lent);
+            x.day(30);
+            C.due("from day 27 for " + n + ", its user", x.person(1, 0), 50 + lent);
+            C.due("from day 27 for " + n + ", its owner", x.person(0, 0), 8 + 3 - lent);
+            C.due("from day 27 for " + n + ", over", x.told(6), 0);
+        }
     }
 
     private static void aLoanEndsWithinTheDaysOfOneCall() {

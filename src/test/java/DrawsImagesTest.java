@@ -18,12 +18,23 @@ public final class DrawsImagesTest {
 
     private static void drifting() {
         OwnBirthdays x = Checks.landOf(THREE);
-        OwnBirthdays y = Checks.landOf(THREE);
         C.due("n 0", x.drift(0), Checks.OUTSIDE);
         C.due("n 1000", x.drift(1000), Checks.OUTSIDE);
-        int seed = 0;
         int sold = 0;
-        for (int day = 1; day <= 300; day++) {
+        for (int seed = 0; seed < 12; seed++) {
+            sold += driftBeside(seed);
+        }
+        C.due("the test sells something", sold > 5 ? 1 : 0, 1);
+    }
+
+    /** The same days by calls of sell and day: 45 of them, for more calls are not promised; how many were sold. */
+    private static int driftBeside(int firstSeed) {
+        OwnBirthdays x = Checks.landOf(THREE);
+        OwnBirthdays y = Checks.landOf(THREE);
+        x.seed(firstSeed);
+        int seed = firstSeed;
+        int sold = 0;
+        for (int day = 1; day <= 45; day++) {
             C.due("drift", x.drift(1), day);
             seed = next(seed);
             if (seed / 65536 % 4 == 0) {
@@ -38,8 +49,8 @@ public final class DrawsImagesTest {
                 C.due("owned on day " + day, x.person(p, 3), y.person(p, 3));
             }
         }
-        C.due("the test sells something", sold > 5 ? 1 : 0, 1);
         C.due("the seed", x.seed(0), seed);
+        return sold;
     }
 
     private static void driftingWithout() {

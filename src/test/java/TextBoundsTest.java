@@ -298,8 +298,10 @@ public final class TextBoundsTest {
         for (String word : words) {
             fault(word.substring(1) + " 5 5;", 1, 0);
             fault(word.substring(0, word.length() - 1) + " 5 5;", 1, 0);
-            fault(word + "s 5 5;", 1, 0);
+            fault(word + "a 5 5;", 1, 0);
+            fault(word + "z 5 5;", 1, 0);
             fault("a" + word + " 5 5;", 1, 0);
+            fault("z" + word + " 5 5;", 1, 0);
             fault(word.toUpperCase() + " 5 5;", 1, 0);
             fault(word.substring(0, 2) + "z" + word.substring(3) + " 5 5;", 1, 0);
             // the sign below a and the one above z are no letters: the word ends ahead of them

@@ -1,6 +1,9 @@
 import java.util.Random;
 
-/** Calls with any numbers in any state: none throws, and what is refused changes nothing. */
+/**
+ * Calls with any numbers in any state: none throws, and what is refused changes nothing. There are more calls than the
+ * 512 of the document on one object: that no call throws is said without a number of calls.
+ */
 public final class WildCallsTest {
     private static final Checks C = new Checks("WildCallsTest");
     private static final int[] EDGES = {Integer.MIN_VALUE, Integer.MIN_VALUE + 1, -1000000001, -10000, -2, -1, 0, 1, 2, 5, 6, 7, 8,
