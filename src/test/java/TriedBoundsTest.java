@@ -446,6 +446,17 @@ public final class TriedBoundsTest {
         for (int b = 0; b < 8; b++) {
             C.due("six of 13, birthday " + b, x.given(6, 13, 8, b), due[b]);
         }
+        C.due("six of 16: all six lack some", x.given(6, 16, 8, NONE), NONE);
+        // all six lack a year, all eight are 0's: it gives the five cheapest away, in their order
+        OwnBirthdays y = Checks.landOf("year 9;" + "person 10 0;".repeat(6) + "birthday 1 0 8;birthday 2 0 7;birthday 3 0 6;"
+            + "birthday 4 0 5;birthday 5 0 4;birthday 6 0 3;birthday 7 0 2;birthday 8 0 1;");
+        C.due("six of 11", y.given(6, 11, 8, NONE), 1 + 2 + 3 + 4 + 5);
+        C.due("six of 12", y.given(6, 12, 8, NONE), NONE);
+        C.due("six of 11, a day less", y.given(6, 11, 7, NONE), 2 + 3 + 4 + 5 + 6);
+        int[] six = {0, 0, 0, 1, 2, 3, 4, 5};
+        for (int b = 0; b < 8; b++) {
+            C.due("six of 11, birthday " + b, y.given(6, 11, 8, b), six[b]);
+        }
     }
 
     /** "As long as some BIRTHDAY .. is worth more to another one": like worth is not more. */
