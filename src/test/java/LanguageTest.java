@@ -1,9 +1,15 @@
 import java.io.IOException;
+import java.lang.reflect.Field;
+import java.lang.reflect.Modifier;
 import java.nio.charset.StandardCharsets;
 import java.nio.file.Files;
 import java.nio.file.Path;
+import java.util.ArrayList;
+import java.util.HashMap;
 import java.util.List;
+import java.util.Map;
 import java.util.Set;
+import java.util.TreeSet;
 import java.util.regex.Matcher;
 import java.util.regex.Pattern;
 
@@ -16,6 +22,11 @@ public final class LanguageTest {
         "->", "::", "Exact\\(", "\\bObject\\b", "\\bThread\\b", "\\bSystem\\.(?!arraycopy)", "\\bjava\\.(?!util\\.Arrays;)", "@",
         "\\bNaN\\b", "\\bhashCode\\b", "\\btoString\\b", "static \\{", "\\[\\]\\[\\]\\[\\]", "new \\w+\\(\\) \\{"};
 
+    private static final List<Method> METHODS = new ArrayList<>();
+
+    private record Method(String name, String parameters, List<String> body) {
+    }
+
     public static void main(String[] args) throws IOException {
         Path path = Path.of("src/main/java/OwnBirthdays.java");
         String whole = Files.readString(path, StandardCharsets.US_ASCII);
@@ -23,8 +34,12 @@ public final class LanguageTest {
         importsAreListed(whole);
         nothingRuledOut(code);
         staticFieldsAreFinal(code);
-        methodsAreShort(code);
+        readMethods(code);
+        methodsAreShort();
+        callsGoAtMostEightDeep();
+        objectsAreMadeByConstructorsAlone(code);
         classesAreFew(code);
+        fieldsAreFew();
         noTextIsJoinedByPlus(code);
         C.end();
     }
@@ -58,25 +73,90 @@ public final class LanguageTest {
     }
 
     /** A method begins at a line of 4 or 8 blanks that ends in ") {" and ends at the next "}" of as many blanks. */
-    private static void methodsAreShort(String code) {
+    private static void readMethods(String code) {
         List<String> lines = code.lines().toList();
-        int methods = 0;
         for (int i = 0; i < lines.size(); i++) {
-            Matcher m = Pattern.compile("^( {4}| {8})(?! )[\\w\\[\\] ]*\\w\\((.*)\\) \\{$").matcher(lines.get(i));
+            Matcher m = Pattern.compile("^( {4}| {8})(?! )[\\w\\[\\] ]*?(\\w+)\\((.*)\\) \\{$").matcher(lines.get(i));
             if (!m.matches() || lines.get(i).matches("^ *(if|for|while|switch) .*")) {
                 continue;
             }
-            methods++;
             int end = i;
             while (!lines.get(end).equals(m.group(1) + "}")) {
                 end++;
             }
-            String parameters = m.group(2);
-            int many = parameters.isEmpty() ? 0 : parameters.split(",").length;
-            C.due("rule 11: parameters of " + lines.get(i).trim(), many <= 7 ? 1 : 0, 1);
-            C.due("rule 11: lines of " + lines.get(i).trim(), end - i <= 60 ? 1 : 0, 1);
+            METHODS.add(new Method(m.group(2), m.group(3), lines.subList(i + 1, end)));
         }
-        C.due("rule 11: there are methods", methods > 80 ? 1 : 0, 1);
+        C.due("rule 11: there are methods", METHODS.size() > 80 ? 1 : 0, 1);
+    }
+
+    private static void methodsAreShort() {
+        for (Method method : METHODS) {
+            int many = method.parameters.isEmpty() ? 0 : method.parameters.split(",").length;
+            C.due("rule 11: parameters of " + method.name, many <= 7 ? 1 : 0, 1);
+            C.due("rule 11: lines of " + method.name, method.body.size() <= 60 ? 1 : 0, 1);
+        }
+    }
+
+    /** Methods of one name are taken for one: no call is left out. */
+    private static void callsGoAtMostEightDeep() {
+        Map<String, Set<String>> calls = new HashMap<>();
+        for (Method method : METHODS) {
+            calls.computeIfAbsent(method.name, name -> new TreeSet<>());
+        }
+        for (Method method : METHODS) {
+            Matcher m = Pattern.compile("(\\w+)\\(").matcher(String.join("\n", method.body));
+            while (m.find()) {
+                if (calls.containsKey(m.group(1))) {
+                    calls.get(method.name).add(m.group(1));
+                }
+            }
+        }
+        int deepest = 0;
+        for (String name : calls.keySet()) {
+            deepest = Math.max(deepest, depthOf(name, calls, 1));
+        }
+        C.due("rules 8, 11: no recursion, at most eight deep; it is " + deepest, deepest >= 5 && deepest <= 8 ? 1 : 0, 1);
+    }
+
+    private static int depthOf(String name, Map<String, Set<String>> calls, int depth) {
+        int deepest = depth;
+        if (depth < 50) {
+            for (String next : calls.get(name)) {
+                deepest = Math.max(deepest, depthOf(next, calls, depth + 1));
+            }
+        }
+        return deepest;
+    }
+
+    /** All calls of a run live in one room: what a call makes would be counted as often as it is called. */
+    private static void objectsAreMadeByConstructorsAlone(String code) {
+        Matcher all = Pattern.compile("\\bnew\\b").matcher(code);
+        int inCode = 0;
+        while (all.find()) {
+            inCode++;
+        }
+        int inConstructors = 0;
+        for (Method method : METHODS) {
+            Matcher m = Pattern.compile("\\bnew\\b").matcher(String.join("\n", method.body));
+            while (m.find()) {
+                inConstructors += Character.isUpperCase(method.name.charAt(0)) ? 1 : 0;
+            }
+        }
+        C.due("rule 12: what is made, all by constructors", inConstructors, inCode);
+        Pattern copies = Pattern.compile("\\b(clone|copyOf|copyOfRange|substring|toCharArray)\\(");
+        C.due("rule 12: no copies are made", copies.matcher(code).find() ? 1 : 0, 0);
+    }
+
+    private static void fieldsAreFew() {
+        List<Class<?>> classes = new ArrayList<>(List.of(OwnBirthdays.class.getDeclaredClasses()));
+        classes.add(OwnBirthdays.class);
+        for (Class<?> one : classes) {
+            int fields = 0;
+            for (Field f : one.getDeclaredFields()) {
+                fields += Modifier.isStatic(f.getModifiers()) ? 0 : 1;
+            }
+            C.due("rule 11: fields of " + one, fields <= 20 ? 1 : 0, 1);
+        }
     }
 
     private static void classesAreFew(String code) {
