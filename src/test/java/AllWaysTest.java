@@ -194,7 +194,7 @@ public final class AllWaysTest {
     }
 
     /** The first change of hands {birthday, to whom}; null if nobody gains by any. */
-    private static int[] firstChange(OwnBirthdays x) {
+    static int[] firstChange(OwnBirthdays x) {
         int persons = x.told(1);
         int[] next = new int[persons];
         int[] last = new int[persons];

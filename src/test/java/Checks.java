@@ -13,6 +13,10 @@ final class Checks {
         int on(OwnBirthdays x, int number);
     }
 
+    interface Feeder {
+        int feed(int n, long bytes);
+    }
+
     static final int NONE = -1, UNKNOWN = -1000000001, OUTSIDE = -1000000002, NOT = -1000000003, FULL = -1000000004;
 
     private final String test;
@@ -73,13 +77,17 @@ final class Checks {
     }
 
     static void feed(OwnBirthdays x, String text) {
+        feed(x::feed, text);
+    }
+
+    static void feed(Feeder to, String text) {
         for (int i = 0; i < text.length(); i += 8) {
             int n = Math.min(8, text.length() - i);
             long bytes = 0;
             for (int j = 0; j < n; j++) {
                 bytes = bytes << 8 | text.charAt(i + j) & 255;
             }
-            x.feed(n, bytes);
+            to.feed(n, bytes);
         }
     }
 

@@ -1,8 +1,5 @@
-import java.io.IOException;
 import java.lang.reflect.Method;
 import java.lang.reflect.Modifier;
-import java.net.URL;
-import java.net.URLClassLoader;
 import java.nio.file.Files;
 import java.nio.file.Path;
 import java.util.ArrayList;
@@ -11,7 +8,6 @@ import java.util.Set;
 import java.util.TreeSet;
 import java.util.regex.Matcher;
 import java.util.regex.Pattern;
-import javax.tools.ToolProvider;
 
 /** What README.md says is so: its examples are compiled and run, its tables and its files are looked for. */
 public final class ReadmeTest {
@@ -73,28 +69,10 @@ public final class ReadmeTest {
     }
 
     private static void theExamplesAnswerAsTheySay(String readme) throws Exception {
-        Path folder = Files.createTempDirectory("readme");
-        Path source = folder.resolve("Shown.java");
-        try {
-            Files.writeString(source, program(readme));
-            int failed = ToolProvider.getSystemJavaCompiler().run(null, null, null, "-d", folder.toString(),
-                "-cp", System.getProperty("java.class.path"), source.toString());
-            C.due("the examples do not compile", failed, 0);
-            try (URLClassLoader loader = new URLClassLoader(new URL[] {folder.toUri().toURL()})) {
-                loader.loadClass("Shown").getMethod("run").invoke(null);
-            }
-        } finally {
-            deleteAll(folder);
+        try (Compiled compiled = new Compiled("Shown", program(readme), true)) {
+            C.due("the examples compile", compiled.fine ? 1 : 0, 1);
+            compiled.load("Shown").getMethod("run").invoke(null);
         }
-    }
-
-    private static void deleteAll(Path folder) throws IOException {
-        try (var files = Files.list(folder)) {
-            for (Path file : files.toList()) {
-                Files.delete(file);
-            }
-        }
-        Files.delete(folder);
     }
 
     private static void eachCallIsInTheTableAndInAnExample(String readme) {
