@@ -46,6 +46,11 @@ public final class SentencesTest {
     }
 
     private static void nothingIsLeftOut(List<Row> rows) throws IOException {
+        C.due("the table has rows", rows.size() > 150 ? 1 : 0, 1);
+        if (!Files.isReadable(DOCUMENT)) {
+            System.out.println("SentencesTest: " + DOCUMENT + " is not there: the table was not compared with it");
+            return;
+        }
         StringBuilder listed = new StringBuilder();
         for (Row row : rows) {
             listed.append(row.says).append(' ');
