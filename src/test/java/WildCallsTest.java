@@ -43,6 +43,10 @@ public final class WildCallsTest {
         }
         String before = look(x);
         int answer = answer(x, which, a, bytes);
+        boolean refused = answer <= Checks.UNKNOWN && answer >= Checks.FULL;
+        int least = which == 1 ? -14 : Checks.NONE;
+        C.due("run " + run + ": call " + which + " answered " + answer + ", is that counted or refused",
+            refused || answer >= least ? 1 : 0, 1);
         if (answer <= Checks.UNKNOWN) {
             boolean same = before.equals(look(x));
             C.due("run " + run + ": call " + which + " of " + a[0] + ", " + a[1] + ", " + a[2] + ", " + a[3]
