@@ -99,6 +99,7 @@ public final class ReadmeTest {
             int number = OwnBirthdays.class.getField(name).getInt(null);
             int place = readme.indexOf("| `" + name + "` | " + number + " |");
             C.due("in its order: " + name, place > last ? 1 : 0, 1);
+            C.due("an example of " + name, readme.contains("// " + name + ": ") ? 1 : 0, 1);
             last = place;
         }
         C.due("NONE", readme.contains("`NONE` is " + OwnBirthdays.NONE) ? 1 : 0, 1);
